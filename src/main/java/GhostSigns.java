@@ -737,7 +737,7 @@ public final class GhostSigns {
     /** SHEETS: rows of bytes, or missing. */
     private static final class Sheets {
         static final int COUNT = 4, LONGEST = 10;
-        private static final int MISSING = -1;
+        private static final int MISSING = -1, FIRST_BYTE = 97;
 
         final byte[][] rows = new byte[COUNT][LONGEST];
         final int[] sizes = new int[COUNT];
@@ -760,7 +760,7 @@ public final class GhostSigns {
         }
 
         void bring(int s, int n) {
-            Arrays.fill(rows[s], (byte) 'a');
+            Arrays.fill(rows[s], (byte) FIRST_BYTE);
             sizes[s] = n;
         }
 

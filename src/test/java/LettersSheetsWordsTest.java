@@ -287,6 +287,11 @@ public final class LettersSheetsWordsTest {
         Checks.due("heir without slogan", x.strike(1), 1);
         Checks.due("firm without heir", x.strike(0), 1);
         x.bare(2);
+        for (int line = 0; line < 4; line++) {
+            x.layer(line, 3, 9, 1);
+            Checks.due("a layer of line " + line + " needs it", x.strike(3), Checks.STATE);
+            x.bare(line);
+        }
         x.read(0, 3);
         Checks.due("word without layer, though read", x.strike(3), 1);
         Checks.found(x, "struck already", () -> x.strike(3), Checks.NOTHING);
@@ -310,9 +315,11 @@ public final class LettersSheetsWordsTest {
         }
         x.letter('b', 1);
         Checks.due("cells are those of the letters now", x.told(0, 2), 7);
+        Checks.word(x, "baaaaaab");
+        Checks.due("cells of eight letters", x.told(2, 2), 20);
         Checks.due("told(0, 6)", x.told(0, 6), Checks.BAD);
         Checks.due("told(0, -1)", x.told(0, -1), Checks.BAD);
-        Checks.due("told(2, 0)", x.told(2, 0), Checks.BAD);
+        Checks.due("told(3, 0)", x.told(3, 0), Checks.BAD);
         Checks.due("told(-1, 0)", x.told(-1, 0), Checks.BAD);
         x.strike(0);
         Checks.due("BAD ahead of NOTHING", x.told(0, 6), Checks.BAD);

@@ -72,10 +72,35 @@ public final class LightsHandsKeepingTest {
         Checks.due("line 4", x.gain(0, 4, 1), Checks.BAD);
         Checks.due("colour 0", x.gain(0, 0, 0), Checks.BAD);
         Checks.due("colour 4", x.gain(0, 0, 4), Checks.BAD);
+        gainAtTheEnds();
         GhostSigns y = withRivals();
         y.see(0, 6, 1, 4);
         y.light(2, 0, 6, 1);
         Checks.due("rivals in other slots", y.gain(2, 0, 1), 1);
+    }
+
+    /** Promise 30: cells of the first and the last slot, by the last of thirty lines. */
+    private static void gainAtTheEnds() {
+        for (int slot = 0; slot < 10; slot += 9) {
+            GhostSigns x = withRivals();
+            x.see(0, 6, 1, 4);
+            x.see(0, slot, 1, 2);
+            for (int i = 0; i < 29; i++) {
+                x.light(4, 0, 6, 32767);
+            }
+            Checks.due("no rival is there", x.gain(4, 0, 2), 0);
+            Checks.due("the thirtieth", x.light(4, 0, slot, 32767), 30);
+            Checks.due("what some have and others not", x.gain(4, 0, 2), 2);
+            Checks.due("what all have, seen or not", x.gain(4, 1, 2), 0);
+        }
+        GhostSigns y = new GhostSigns();
+        y.letter('a', 1);
+        Checks.word(y, "aaaaaaaa");
+        y.see(0, 2, 1, 1);
+        y.light(0, 0, 3, 1);
+        Checks.due("all rivals have it", y.gain(0, 0, 1), 0);
+        y.light(0, 0, 0, 1);
+        Checks.due("some rivals have it", y.gain(0, 0, 1), 1);
     }
 
     /** Promise 31. */
@@ -92,6 +117,8 @@ public final class LightsHandsKeepingTest {
         x.light(0, 0, 6, 1);
         Checks.due("a light that shows what is known", x.next(0, 2), 4);
         Checks.due("another line", x.next(1, 2), Checks.NONE);
+        x.light(0, 0, 6, 6);
+        Checks.due("the first light", x.next(0, 2), 0);
         Checks.due("line 4", x.next(4, 1), Checks.BAD);
         Checks.due("line -1", x.next(-1, 1), Checks.BAD);
         Checks.due("colour 0", x.next(0, 0), Checks.BAD);
@@ -169,6 +196,7 @@ public final class LightsHandsKeepingTest {
         Checks.due("all bits", x.asked(), 4095);
         Checks.due("all but one", x.keep(11999), 11000);
         Checks.due("the least bits", x.asked(), 2047);
+        Checks.due("a budget of nothing", x.keep(0), 0);
         Checks.due("none", x.keep(999), 0);
         Checks.due("no bits", x.asked(), 0);
         x.keep(1000);

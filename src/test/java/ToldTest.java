@@ -169,7 +169,7 @@ public final class ToldTest {
         Checks.word(x, "ab");
         x.layer(0, 0, 3, 2);
         x.layer(0, 0, 4, 1);
-        x.layer(2, 0, 8, 3);
+        x.layer(3, 0, 8, 3);
         x.read(0, 0);
         x.wall(1, 1, true);
         x.wall(1, 1, false);

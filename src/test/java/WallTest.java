@@ -16,6 +16,7 @@ public final class WallTest {
         two();
         twoInOrder();
         twoTries();
+        twoAtTheEnds();
         Checks.finish();
     }
 
@@ -95,6 +96,10 @@ public final class WallTest {
         Checks.due("in colour 2", x.lack(0, 0, 4, 2), 2);
         Checks.due("in colour 3", x.lack(0, 0, 4, 3), 3);
         Checks.due("on another line", x.lack(1, 1, 4, 1), 0);
+        x.see(2, 0, 32767, 0);
+        x.see(2, 9, 32767, 3);
+        Checks.due("lack in the first slot", x.lack(2, 0, 0, 1), 3);
+        Checks.due("lack in the last slot", x.lack(2, 1, 8, 1), 3);
         Checks.due("line 4", x.lack(4, 0, 0, 1), Checks.BAD);
         Checks.due("word 4", x.lack(0, 4, 0, 1), Checks.BAD);
         Checks.due("word -1", x.lack(0, -1, 0, 1), Checks.BAD);
@@ -230,6 +235,12 @@ public final class WallTest {
         Checks.due("a colour of no layer", x.faded(0), Checks.NONE);
         x.layer(0, 1, 0, 2);
         Checks.due("a colour of a layer that has it not", x.faded(0), Checks.NONE);
+        x.see(3, 9, 1, 3);
+        Checks.due("colour 3 of no layer in the last slot", x.faded(3), Checks.NONE);
+        x.layer(3, 0, 8, 3);
+        Checks.due("colour 3 of a layer that has it not", x.faded(3), Checks.NONE);
+        x.layer(3, 1, 8, 1);
+        Checks.due("a layer in another colour has it", x.faded(3), Checks.NONE);
         Checks.due("line 4", x.faded(4), Checks.BAD);
         Checks.due("line -1", x.faded(-1), Checks.BAD);
     }
@@ -301,6 +312,27 @@ public final class WallTest {
         x.see(0, 0, 8, 2);
         Checks.due("the same, the colours changed", x.two(0, 1, 2, 20000), 0);
         layersAre(x, 0, 1, 0, 2, 0, 0, 1);
+    }
+
+    /** Promise 23: a line that is bare, and one with a third colour, in the first or last slot. */
+    private static void twoAtTheEnds() {
+        for (int slot = 0; slot < 10; slot += 9) {
+            GhostSigns x = new GhostSigns();
+            x.letter('a', 1);
+            Checks.word(x, "a");
+            Checks.word(x, "a");
+            x.see(0, slot, 1, 0);
+            Checks.due("elsewhere nothing fades", x.two(0, 1, 3, 20000), 0);
+            int other = slot == 0 ? 1 : 0;
+            layersAre(x, 0, 0, other, 1, 1, other, 3);
+            for (int at = 0; at < 10; at++) {
+                x.see(0, at, 1, 0);
+            }
+            Checks.due("two fade anywhere", x.two(0, 1, 3, 20000), 2);
+            layersAre(x, 0, 0, 0, 1, 1, 0, 3);
+            x.see(0, slot, 16384, 2);
+            Checks.due("a third colour", x.two(0, 1, 3, 20000), Checks.NONE);
+        }
     }
 
     /** Promise 23: each pair is one try. */
