@@ -1142,7 +1142,7 @@ public final class GhostSigns {
          * wherever it has LACK.
          */
         boolean seek(Places a, Places b) {
-            fewest = Integer.MAX_VALUE;
+            fewest = NONE;
             for (int i = 0; i < a.entries; i++) {
                 for (int j = 0; j < b.entries; j++) {
                     if (a.words[i] != b.words[j]) {
@@ -1151,11 +1151,11 @@ public final class GhostSigns {
                     }
                 }
             }
-            return fewest != Integer.MAX_VALUE;
+            return fewest != NONE;
         }
 
         private void take(int sum, int i, int j, boolean beneath) {
-            if (sum < fewest) {
+            if (fewest == NONE || sum < fewest) {
                 fewest = sum;
                 ofA = i;
                 ofB = j;

@@ -9,7 +9,8 @@ public final class LanguageTest {
         "\\bthrow\\b", "\\bthrows\\b", "\\btry\\b", "\\bcatch\\b", "\\bsynchronized\\b", "\\bassert\\b",
         "->", "::", "\\bpackage\\b", "\\bstatic\\s*\\{", "\\bdouble\\b", "\\bfloat\\b", "\\bprotected\\b",
         "Exact\\b", "\\bSystem\\.(?!arraycopy\\b)", "\\bArrays\\.(?!(copyOf|copyOfRange|fill)\\b)",
-        "\\bMath\\.(?!(min|max|abs|floorDiv|floorMod)\\b)", "\\bequals\\b", "\\bhashCode\\b", "\\btoString\\b"
+        "\\bMath\\.(?!(min|max|abs|floorDiv|floorMod)\\b)", "\\bInteger\\.(?!(bitCount|compare|max|min)\\()",
+        "\\bequals\\b", "\\bhashCode\\b", "\\btoString\\b"
     };
 
     public static void main(String[] args) throws Exception {
