@@ -53,8 +53,8 @@ final class Checks {
     /** Sixteen words of one letter a: as many as there may ever be. */
     static void fillWords(GhostSigns x) {
         x.sheet(3, 1);
-        while (x.count(0) < 16) {
-            x.word(3);
+        for (int word = x.count(0); word < 16; word++) {
+            due("word " + word + " of 16", x.word(3), word);
         }
     }
 
