@@ -18,7 +18,7 @@ import javax.tools.ToolProvider;
 
 /**
  * The examples of a README: its java blocks, of which each line makes an object or shows a call with
- * its answer. They are compiled as they stand, so that what a reader copies is what was tried.
+ * its answer. Each call is compiled as it is written, so that what a reader copies is what was tried.
  */
 final class ReadmeExamples {
     private static final Pattern BLOCK = Pattern.compile("^```java\\n(.*?)^```$", Pattern.MULTILINE | Pattern.DOTALL);
